@@ -1,0 +1,263 @@
+import java.util.Random;
+
+/** Long runs of calls of all kinds, right and wrong ones, against PlainWorlds; the runs are always the same. */
+public final class LongRunsTest {
+    private static final int RUNS = 300, CALLS = 512;
+
+    private final Random random;
+    private final EightWorlds x = new EightWorlds();
+    private final PlainWorlds plain = new PlainWorlds();
+    private final int mostSongs;
+    private final int run;
+
+    private LongRunsTest(int run) {
+        this.run = run;
+        random = new Random(run);
+        mostSongs = run % 3 == 0 ? 4 : run % 3 == 1 ? 6 : 12;
+    }
+
+    public static void main(String[] args) {
+        for (int i = 0; i < 20000; i++) {
+            faults(new Random(1000 + i));
+        }
+        for (int run = 0; run < RUNS && Check.allRight(); run++) {
+            new LongRunsTest(run).goOn();
+        }
+        Check.end("LongRunsTest");
+    }
+
+    /** Texts that are mostly right, and some with a sign put wrong. */
+    private static void faults(Random random) {
+        String text = Texts.made(random);
+        int fault = PlainWorlds.fault(text);
+        Check.due("fault of " + text, Check.law(new EightWorlds(), text), fault < 0 ? 0 : -100 - fault);
+        if (fault >= 0) {
+            return;
+        }
+        EightWorlds x = new EightWorlds();
+        int worth = random.nextInt(1000);
+        x.song(worth);
+        Check.law(x, text);
+        x.world(1, 0, 0);
+        int crate = random.nextInt(9999) + 1;
+        x.crate(0, 0, crate);
+        Check.due("weight by " + text, x.weight(0, 0), PlainWorlds.weigh(text, worth, crate, 0, 1, 0, 0, 0));
+    }
+
+    private void goOn() {
+        for (int call = 0; call < CALLS; call++) {
+            if (call < 8 && run % 4 != 0) {
+                due("song", 2, 0, 0, 0);
+            } else if (call < 24 && run % 4 != 0) {
+                due(call % 2 == 0 ? "text" : call % 4 == 1 ? "world" : "crate", 5, 0, 0, 0);
+                call += 6;
+            } else {
+                oneCall();
+            }
+        }
+    }
+
+    private int number(int most) {
+        return random.nextInt(40) == 0 ? wild() : random.nextInt(most + 1);
+    }
+
+    private int wild() {
+        int[] all = {-1, -2, Integer.MIN_VALUE, Integer.MAX_VALUE, 12, 9, 60, 61, 1000, 10000, random.nextInt()};
+        return all[random.nextInt(all.length)];
+    }
+
+    private int world() {
+        return number(Math.max(0, plain.count(2) - 1));
+    }
+
+    private int aSong() {
+        return number(Math.max(0, plain.count(0) - 1));
+    }
+
+    private int aLaw() {
+        return number(Math.max(0, plain.count(1) - 1));
+    }
+
+    private void oneCall() {
+        String[] all = {"song", "worth", "text", "feed", "world", "nothing", "of", "of", "weight", "weight", "come",
+            "come", "keepings", "led", "unequal", "unlike", "luck", "right", "guess", "odds", "after", "shop",
+            "chart", "crate", "found", "house", "said", "strong", "line", "against", "undo", "redo", "count"};
+        due(all[random.nextInt(all.length)], 0, 0, 0, 0);
+    }
+
+    private void due(String call, int a, int b, int c, int d) {
+        long[] both = asked(call);
+        Check.due("run " + run + ": " + call, both[0], both[1]);
+    }
+
+    private long[] asked(String call) {
+        int a, b, c, d;
+        switch (call) {
+            case "song":
+                if (plain.count(0) >= mostSongs && mostSongs < 12) {
+                    return two(0, 0);
+                }
+                a = random.nextInt(3) == 0 ? random.nextInt(3) * 100 : number(999);
+                return two(x.song(a), plain.song(a));
+            case "worth":
+                a = aSong();
+                b = random.nextInt(3) == 0 ? random.nextInt(3) * 100 : number(999);
+                return two(x.worth(a, b), plain.worth(a, b));
+            case "text":
+                return text();
+            case "feed":
+                a = number(5);
+                b = random.nextInt();
+                return two(x.feed(a, b), plain.feed(a, b));
+            case "world":
+                a = aLaw() * 10 + number(2);
+                b = random.nextInt(4) == 0 ? number(10000100) : random.nextInt(30) * 10000 + random.nextInt(300);
+                c = random.nextInt();
+                return two(x.world(a, b, c), plain.world(a, b, c));
+            case "nothing":
+                a = world();
+                b = random.nextBoolean() ? number(9999) : random.nextInt(3);
+                return two(x.nothing(a, b), plain.nothing(a, b));
+            case "of":
+                a = world();
+                b = random.nextInt(3) == 0 ? number(5) : random.nextInt(6) * 100 + aSong();
+                return two(x.of(a, b), plain.of(a, b));
+            case "weight":
+                a = world();
+                b = aSong();
+                return two(x.weight(a, b), plain.weight(a, b));
+            case "come":
+                a = world();
+                b = random.nextBoolean() ? random.nextInt(5) : number(20);
+                return two(x.come(a, b), plain.come(a, b));
+            case "keepings":
+                return keepings();
+            case "led":
+                a = world();
+                b = number(30);
+                return two(x.led(a, b), plain.led(a, b));
+            default:
+                return askedMore(call);
+        }
+    }
+
+    private long[] askedMore(String call) {
+        int a, b, c, d;
+        switch (call) {
+            case "unequal":
+                a = world();
+                return two(x.unequal(a), plain.unequal(a));
+            case "unlike":
+                a = world() * 10 + world();
+                return two(x.unlike(a), plain.unlike(a));
+            case "luck":
+                a = aLaw();
+                b = aSong() - random.nextInt(2);
+                return two(x.luck(a, b), plain.luck(a, b));
+            case "right":
+                a = world();
+                return two(x.right(a), plain.right(a));
+            case "guess":
+                a = number((1 << plain.count(2)) - 1);
+                b = number(1);
+                return two(x.guess(a, b), plain.guess(a, b));
+            case "odds":
+                a = world();
+                b = aSong();
+                c = random.nextInt(20) == 0 ? number(7) : random.nextInt(4);
+                d = number(1);
+                return two(x.odds(a, b, c, d), plain.odds(a, b, c, d));
+            case "after":
+                a = world();
+                return two(x.after(a), plain.after(a));
+            case "shop":
+                a = world();
+                b = number(9);
+                return two(x.shop(a, b), plain.shop(a, b));
+            case "chart":
+                a = aSong();
+                b = number(1);
+                return two(x.chart(a, b), plain.chart(a, b));
+            case "crate":
+                a = world();
+                b = aSong();
+                c = random.nextInt(4) == 0 ? number(9999) : random.nextInt(20);
+                return two(x.crate(a, b, c), plain.crate(a, b, c));
+            default:
+                return askedLast(call);
+        }
+    }
+
+    private long[] askedLast(String call) {
+        int a, b, c, d;
+        switch (call) {
+            case "found":
+                a = world();
+                b = number(1);
+                return two(x.found(a, b), plain.found(a, b));
+            case "house":
+                a = world();
+                b = number((1 << plain.count(0)) - 1);
+                c = number(Math.max(1, plain.count(0)));
+                d = number(3);
+                return two(x.house(a, b, c, d), plain.house(a, b, c, d));
+            case "said":
+                a = aLaw();
+                b = random.nextBoolean() && (plain.count(0) < 6 || random.nextInt(20) == 0) ? -1 : world();
+                return two(x.said(a, b), plain.said(a, b));
+            case "strong":
+                a = aLaw() * 10 + aLaw();
+                b = random.nextInt(10) == 0 ? number(30) : random.nextInt(6);
+                c = random.nextInt();
+                return two(x.strong(a, b, c), plain.strong(a, b, c));
+            case "line":
+                a = world() * 10 + world();
+                return two(x.line(a), plain.line(a));
+            case "against":
+                a = world() * 10 + world();
+                b = random.nextInt();
+                c = number(51);
+                return two(x.against(a, b, c), plain.against(a, b, c));
+            case "undo":
+                return two(x.undo(), plain.undo());
+            case "redo":
+                return two(x.redo(), plain.redo());
+            default:
+                a = random.nextInt(5);
+                return two(x.count(a), plain.count(a));
+        }
+    }
+
+    private long[] text() {
+        String text = Texts.made(random);
+        Check.type(x, text);
+        for (int at = 0; at < text.length(); at += 4) {
+            int n = Math.min(4, text.length() - at), v = 0;
+            for (int i = 0; i < n; i++) {
+                v |= (text.charAt(at + i) & 255) << (8 * i);
+            }
+            plain.feed(n, v);
+        }
+        return two(x.law(), plain.law());
+    }
+
+    private long[] keepings() {
+        int n = random.nextInt(12), a = world(), i = random.nextInt(20) == 0 ? wild() : random.nextInt(n + 1);
+        int many = random.nextInt(20) == 0 ? number(61) : random.nextInt(12);
+        byte[] row = new byte[n];
+        x.row(0, 0, n);
+        for (int at = 0; at < n; at++) {
+            row[at] = (byte) (random.nextInt(15) == 0 ? random.nextInt() : random.nextInt(plain.count(0) + 1) - 1);
+            x.put(0, at, row[at]);
+        }
+        if (random.nextInt(10) == 0) {
+            x.keep(0, -1);
+            row = null;
+        }
+        return two(x.keepings(a, 0, i, many), plain.keepings(a, row, i, many));
+    }
+
+    private static long[] two(long a, long b) {
+        return new long[] {a, b};
+    }
+}
