@@ -385,6 +385,10 @@ public final class ActsShelvesTest {
         Check.due("38: a keeping", x.shift(0, 0, 3, 0, 1), -12);
         Check.due("38: a keeping to itself", x.shift(3, 0, 3, 0, 1), -12);
         Check.due("38: of unlike sorts", x.shift(0, 0, 2, 0, 1), -12);
+        x.row(3, 1, 4);
+        x.keep(3, 0);
+        Check.due("38: a keeping where a row was", x.shift(3, 0, 0, 0, 1), -12);
+        Check.due("38: a keeping where a row was", x.shift(0, 0, 3, 0, 1), -12);
         Check.due("38: -12 ahead of -13", x.shift(0, 9, 2, 0, 1), -12);
         int[][] wrong = {{-1, 0, 1}, {0, -1, 1}, {5, 0, 1}, {0, 4, 1}, {0, 0, 5}, {2, 0, 4}, {0, 1, 4}, {6, 0, 0},
             {0, 5, 0}, {MAX, 0, MAX}, {0, MAX, 1}, {MIN, 0, 1}, {1, 1, MAX}, {0, 0, -1}, {0, 0, MIN}};

@@ -339,11 +339,13 @@ public final class ChartsCratesHousesTest {
         Check.due("29: forty", x.count(4), 40);
         for (int left = 39; left >= 0; left--) {
             Check.due("29: undo", x.undo(), left);
+            Check.due("29: one ahead", x.worth(0, left + 5), left + 5);
         }
         Check.due("29: the oldest are not kept", x.undo(), EightWorlds.STATE);
         Check.due("29: as far as they go", x.worth(0, 5), 5);
         for (int left = 39; left >= 0; left--) {
             Check.due("30: redo", x.redo(), left);
+            Check.due("30: one behind", x.worth(0, 45 - left), 45 - left);
         }
         Check.due("30: to the last", x.worth(0, 45), 45);
         Check.due("29: undo", x.undo(), 39);

@@ -23,6 +23,9 @@ public final class LongRunsTest {
         for (int run = 0; run < RUNS && Check.allRight(); run++) {
             new LongRunsTest(run).goOn();
         }
+        for (int i = 0; i < 12; i++) {
+            farOdds(new Random(i), 1 + i % 4);
+        }
         Check.end("LongRunsTest");
     }
 
@@ -42,6 +45,29 @@ public final class LongRunsTest {
         int crate = random.nextInt(9999) + 1;
         x.crate(0, 0, crate);
         Check.due("weight by " + text, x.weight(0, 0), PlainWorlds.weigh(text, worth, crate, 0, 1, 0, 0, 0));
+    }
+
+    /** As many more as may be told, and all that may be kept, where none weighs 0. */
+    private static void farOdds(Random random, int songs) {
+        EightWorlds x = new EightWorlds();
+        PlainWorlds plain = new PlainWorlds();
+        for (int s = 0; s < songs; s++) {
+            int worth = 1 + random.nextInt(999);
+            Check.due("song", x.song(worth), plain.song(worth));
+        }
+        for (char sign : "w+c*c*9+k+(n-p)*t".toCharArray()) {
+            Check.due("feed", x.feed(1, sign), plain.feed(1, sign));
+        }
+        Check.due("law", x.law(), plain.law());
+        int ls = random.nextInt(3), un = 30000 + random.nextInt(2) * 100, seed = random.nextInt();
+        Check.due("world", x.world(ls, un, seed), plain.world(ls, un, seed));
+        Check.due("come", x.come(0, 2), plain.come(0, 2));
+        for (int m = 5; m <= 6; m++) {
+            for (int what = 0; what < 2; what++) {
+                int song = random.nextInt(songs);
+                Check.due("odds of " + m, x.odds(0, song, m, what), plain.odds(0, song, m, what));
+            }
+        }
     }
 
     private void goOn() {

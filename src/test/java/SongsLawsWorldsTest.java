@@ -240,6 +240,8 @@ public final class SongsLawsWorldsTest {
         // MIN / -1 and MIN % -1: ints that wrap
         weighs2("1024*1024*1024*2/-1<0", 1);
         weighs2("1024*1024*1024*2%-1+4", 4);
+        // every byte of the longest text writes its mark
+        weighs2("0?w;".repeat(29) + "w*!c", 300);
     }
 
     private static int heldOf(int v) {
