@@ -61,10 +61,8 @@ public final class EightWorlds {
             return BAD;
         }
         int was = songs.worths[song];
-        if (was != v) {
-            songs.worths[song] = v;
-            changes.note(Changes.NONE, song, was, v);
-        }
+        songs.worths[song] = v;
+        changes.note(Changes.NONE, song, was, v);
         return was;
     }
 
@@ -123,10 +121,8 @@ public final class EightWorlds {
             return BAD;
         }
         int was = w.nothing;
-        if (was != v) {
-            w.nothing = v;
-            changes.note(world, Changes.NONE, was, v);
-        }
+        w.nothing = v;
+        changes.note(world, Changes.NONE, was, v);
         return was;
     }
 
@@ -1299,7 +1295,11 @@ public final class EightWorlds {
         int done;
         int size;
 
+        /** Keeps a change; one that leaves the number as it was is none, of whatever kind it is. */
         void note(int world, int song, int was, int is) {
+            if (was == is) {
+                return;
+            }
             if (done >= MOST) {
                 forgetFirst();
             }

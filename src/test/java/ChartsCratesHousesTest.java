@@ -20,6 +20,8 @@ public final class ChartsCratesHousesTest {
         anotherCameBehind();
         fortyAreKept();
         cratesAreUndoneToTheirCounts();
+        cratesAtTheMostAreNoChange();
+        cratesBehindAnUndoneOne();
         Check.end("ChartsCratesHousesTest");
     }
 
@@ -372,5 +374,60 @@ public final class ChartsCratesHousesTest {
         Check.due("30: as it was behind", x.of(0, 101), 10);
         x.redo();
         Check.due("30: as it was behind", x.of(0, 101), 17);
+    }
+
+    /** A WORLD whose first SONG has a COUNT of 99999, by eleven CRATES. */
+    private static EightWorlds atTheMost() {
+        EightWorlds x = worlds(1, 1);
+        x.crate(0, 0, 9);
+        for (int i = 0; i < 10; i++) {
+            x.crate(0, 0, 9999);
+        }
+        Check.due("22: the count", x.of(0, 100), 99999);
+        Check.due("29: eleven crates", x.count(4), 11);
+        return x;
+    }
+
+    private static void cratesAtTheMostAreNoChange() {
+        EightWorlds x = atTheMost();
+        Check.due("22: at the most already", x.crate(0, 0, 1), 99999);
+        Check.due("22: at the most already", x.crate(0, 0, 9999), 99999);
+        Check.due("29: those are none", x.count(4), 11);
+        x.crate(0, 1, 5);
+        Check.due("29: another song's is one", x.count(4), 12);
+        Check.due("29: undo", x.undo(), 11);
+        Check.due("22: between an undone one and its redo", x.crate(0, 0, 7), 99999);
+        Check.due("30: it did not come behind", x.redo(), 0);
+        Check.due("30: the crate", x.of(0, 101), 5);
+        x.undo();
+        Check.due("29: undo", x.undo(), 10);
+        Check.due("29: the last that was one", x.of(0, 100), 90000);
+        Check.due("22: a part of it is one", x.crate(0, 0, 9999), 99999);
+        Check.due("29: it is one", x.count(4), 11);
+        Check.due("30: it came behind", x.redo(), EightWorlds.STATE);
+    }
+
+    /** Fewer copies than told are a change, as long as there is one; forty are kept of what are changes alone. */
+    private static void cratesBehindAnUndoneOne() {
+        EightWorlds x = atTheMost();
+        x.undo();
+        x.crate(0, 0, 9998);
+        Check.due("22: one below the most", x.of(0, 100), 99998);
+        Check.due("22: of two one", x.crate(0, 0, 2), 99999);
+        Check.due("29: it is one", x.count(4), 12);
+        for (int i = 0; i < 40; i++) {
+            x.crate(0, 0, 1 + i);
+        }
+        Check.due("29: none of forty", x.count(4), 12);
+        Check.due("29: undo", x.undo(), 11);
+        Check.due("29: as it was ahead", x.of(0, 100), 99998);
+        Check.keep(x, 0, 0);
+        Check.due("22: a keeping took it there", x.crate(0, 0, 3), 99999);
+        Check.due("30: so it is none", x.redo(), 0);
+        for (int left = 11; left >= 0; left--) {
+            Check.due("29: undo", x.undo(), left);
+        }
+        Check.due("29: to the first", x.of(0, 100), 0);
+        Check.due("29: none is left", x.undo(), EightWorlds.STATE);
     }
 }

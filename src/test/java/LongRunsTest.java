@@ -23,6 +23,9 @@ public final class LongRunsTest {
         for (int run = 0; run < RUNS && Check.allRight(); run++) {
             new LongRunsTest(run).goOn();
         }
+        for (int i = 0; i < 40 && Check.allRight(); i++) {
+            manyChanges(new Random(500 + i));
+        }
         for (int i = 0; i < 12; i++) {
             farOdds(new Random(i), 1 + i % 4);
         }
@@ -67,6 +70,48 @@ public final class LongRunsTest {
                 int song = random.nextInt(songs);
                 Check.due("odds of " + m, x.odds(0, song, m, what), plain.odds(0, song, m, what));
             }
+        }
+    }
+
+    /** Changes of few numbers, so that many tell the same one and COUNTS come to the most. */
+    private static void manyChanges(Random random) {
+        EightWorlds x = new EightWorlds();
+        PlainWorlds plain = new PlainWorlds();
+        Check.due("song", x.song(1), plain.song(1));
+        Check.due("song", x.song(2), plain.song(2));
+        Check.due("feed", x.feed(1, 'w'), plain.feed(1, 'w'));
+        Check.due("law", x.law(), plain.law());
+        Check.due("world", x.world(1, 3, 4), plain.world(1, 3, 4));
+        for (int call = 0; call < 240; call++) {
+            oneChange(random, x, plain);
+            int song = random.nextInt(2);
+            Check.due("count(4)", x.count(4), plain.count(4));
+            Check.due("of", x.of(0, 100 + song), plain.of(0, 100 + song));
+        }
+    }
+
+    private static void oneChange(Random random, EightWorlds x, PlainWorlds plain) {
+        int song = random.nextInt(8) / 7, v = random.nextInt(2);
+        switch (random.nextInt(8)) {
+            case 0:
+                Check.due("worth", x.worth(song, v), plain.worth(song, v));
+                break;
+            case 1:
+                Check.due("nothing", x.nothing(0, v), plain.nothing(0, v));
+                break;
+            case 2:
+                Check.due("come", x.come(0, 1), plain.come(0, 1));
+                break;
+            case 3:
+                Check.due("undo", x.undo(), plain.undo());
+                break;
+            case 4:
+                Check.due("redo", x.redo(), plain.redo());
+                break;
+            default:
+                int m = 9999 - random.nextInt(3);
+                Check.due("crate", x.crate(0, song, m), plain.crate(0, song, m));
+                break;
         }
     }
 

@@ -186,6 +186,9 @@ final class PlainWorlds {
     }
 
     private void change(Change c) {
+        if (c.ahead == c.behind) {
+            return;
+        }
         toRedo.clear();
         toUndo.add(c);
         if (toUndo.size() > 40) {
@@ -198,9 +201,7 @@ final class PlainWorlds {
             return BAD;
         }
         int was = worths.set(song, v);
-        if (was != v) {
-            change(new Change(0, 0, song, was, v));
-        }
+        change(new Change(0, 0, song, was, v));
         return was;
     }
 
@@ -254,9 +255,7 @@ final class PlainWorlds {
         }
         int was = worlds.get(world).nothing;
         worlds.get(world).nothing = v;
-        if (was != v) {
-            change(new Change(1, world, 0, was, v));
-        }
+        change(new Change(1, world, 0, was, v));
         return was;
     }
 
