@@ -40,159 +40,19 @@ public final class ActsShelvesTest {
         Check.due("31: the last one's kind", x.act(49, 0, 1), 1 + 49 + 3);
     }
 
-    // KEEPINGS as the Java machine itself lets their acts come from above.
-
-    private interface Tries {
-        int number();
-
-        default int tries(int x) {
-            return x + number();
-        }
-    }
-
-    private static class Keeping implements Tries {
-        final int n;
-
-        Keeping(int n) {
-            this.n = n;
-        }
-
-        public int number() {
-            return n;
-        }
-
-        int keeps(int x) {
-            return tries(x) * 2;
-        }
-
-        int counts(int x) {
-            return x ^ n;
-        }
-
-        int tells(int x) {
-            return keeps(x) - counts(1);
-        }
-    }
-
-    private static class Own extends Keeping {
-        Own(int n) {
-            super(n);
-        }
-
-        @Override
-        public int tries(int x) {
-            return super.tries(x) + 3;
-        }
-    }
-
-    private static class Led extends Keeping {
-        Led(int n) {
-            super(n);
-        }
-
-        @Override
-        int keeps(int x) {
-            return -super.keeps(x);
-        }
-    }
-
-    private static final class KeptUp extends Led {
-        KeptUp(int n) {
-            super(n);
-        }
-
-        @Override
-        int counts(int x) {
-            return super.counts(x) * 3;
-        }
-
-        @Override
-        int keeps(int x) {
-            return super.keeps(x + 1);
-        }
-    }
-
-    private static final class Bought extends Keeping {
-        Bought(int n) {
-            super(n);
-        }
-
-        @Override
-        int counts(int x) {
-            return super.counts(x) - tries(2);
-        }
-    }
-
-    private static final class Shown extends Led {
-        Shown(int n) {
-            super(n);
-        }
-
-        @Override
-        int tells(int x) {
-            return super.tells(x) ^ 5;
-        }
-    }
-
-    private static final class Late extends Own {
-        Late(int n) {
-            super(n);
-        }
-
-        @Override
-        public int tries(int x) {
-            return super.tries(x) * 2;
-        }
-    }
-
-    private static final class Against extends Keeping {
-        Against(int n) {
-            super(n);
-        }
-
-        @Override
-        int keeps(int x) {
-            return super.keeps(x) + counts(2);
-        }
-
-        @Override
-        int tells(int x) {
-            return super.tells(x) - 1;
-        }
-    }
-
-    private static Keeping made(int kind, int n) {
-        switch (kind) {
-            case 0: return new Keeping(n);
-            case 1: return new Own(n);
-            case 2: return new Led(n);
-            case 3: return new KeptUp(n);
-            case 4: return new Bought(n);
-            case 5: return new Shown(n);
-            case 6: return new Late(n);
-            default: return new Against(n);
-        }
-    }
-
-    private static int acted(Keeping one, int act, int x) {
-        switch (act) {
-            case 0: return one.tries(x);
-            case 1: return one.keeps(x);
-            case 2: return one.counts(x);
-            default: return one.tells(x);
-        }
-    }
-
     private static void acts() {
-        EightWorlds x = new EightWorlds();
         for (int b = 0; b < 40; b++) {
-            x.body(b % 8);
-        }
-        for (int b = 0; b < 40; b++) {
-            Keeping one = made(b % 8, b);
+            EightWorlds x = new EightWorlds();
+            for (int before = 0; before <= b; before++) {
+                x.body(before % 8);
+            }
+            Host host = new Host();
+            for (int before = 0; before <= b; before++) {
+                host.body(before % 8);
+            }
             for (int act = 0; act < 4; act++) {
                 for (int v : new int[] {0, 1, 9, -1, -40, 12345, MAX, MIN, MAX - 20, MIN + 3}) {
-                    Check.due("32: act(" + b + ", " + act + ", " + v + ")", x.act(b, act, v), acted(one, act, v));
+                    Check.due("32: act(" + b + ", " + act + ", " + v + ")", x.act(b, act, v), host.act(b, act, v));
                 }
             }
         }
@@ -291,7 +151,8 @@ public final class ActsShelvesTest {
         Check.due("35: is a row", x.put(0, 0, 1), 1);
     }
 
-    private static void kept(EightWorlds x, int sort, long v, long want) {
+    private static void kept(int sort, long v, long want) {
+        EightWorlds x = new EightWorlds();
         x.row(0, sort, 3);
         Check.due("36: put " + v + " in a row " + sort, x.put(0, 1, v), 1);
         Check.due("37: " + v + " in a row " + sort, x.element(0, 1), want);
@@ -300,15 +161,15 @@ public final class ActsShelvesTest {
     }
 
     private static void puts() {
-        EightWorlds x = withBodies(0);
         for (long v : new long[] {0, 1, 2, -1, 127, 128, 255, 256, -128, -129, 32767, 32768, 65536, MAX, MIN,
             1L + MAX, MIN - 1L, 1L << 32, 1L << 40, Long.MAX_VALUE, Long.MIN_VALUE, 0x123456789ABCDEFL}) {
-            kept(x, 0, v, (byte) v);
-            kept(x, 1, v, (short) v);
-            kept(x, 2, v, (int) v);
-            kept(x, 3, v, v);
-            kept(x, 4, v, v == 0 ? 0 : 1);
+            kept(0, v, (byte) v);
+            kept(1, v, (short) v);
+            kept(2, v, (int) v);
+            kept(3, v, v);
+            kept(4, v, v == 0 ? 0 : 1);
         }
+        EightWorlds x = withBodies(0);
         x.row(0, 2, 3);
         Check.due("36: shelf 6", x.put(6, 0, 1), EightWorlds.BAD);
         Check.due("36: shelf -1", x.put(-1, 0, 1), EightWorlds.BAD);

@@ -2,13 +2,16 @@ import java.util.Random;
 
 /** Long runs of calls of all kinds, right and wrong ones, against PlainWorlds; the runs are always the same. */
 public final class LongRunsTest {
-    private static final int RUNS = 300, CALLS = 512;
+    private static final int RUNS = 450, CALLS = 512;
+    /** A text of 120 bytes and its law(): the most that one turn may need. */
+    private static final int MOST_CALLS_OF_A_TURN = 31;
 
     private final Random random;
     private final EightWorlds x = new EightWorlds();
     private final PlainWorlds plain = new PlainWorlds();
     private final int mostSongs;
     private final int run;
+    private int used = 0;
 
     private LongRunsTest(int run) {
         this.run = run;
@@ -82,7 +85,8 @@ public final class LongRunsTest {
         Check.due("feed", x.feed(1, 'w'), plain.feed(1, 'w'));
         Check.due("law", x.law(), plain.law());
         Check.due("world", x.world(1, 3, 4), plain.world(1, 3, 4));
-        for (int call = 0; call < 240; call++) {
+        // three calls each
+        for (int call = 0; call < 160; call++) {
             oneChange(random, x, plain);
             int song = random.nextInt(2);
             Check.due("count(4)", x.count(4), plain.count(4));
@@ -116,7 +120,7 @@ public final class LongRunsTest {
     }
 
     private void goOn() {
-        for (int call = 0; call < CALLS; call++) {
+        for (int call = 0; used <= CALLS - MOST_CALLS_OF_A_TURN; call++) {
             if (call < 8 && run % 4 != 0) {
                 due("song", 2, 0, 0, 0);
             } else if (call < 24 && run % 4 != 0) {
@@ -158,6 +162,7 @@ public final class LongRunsTest {
 
     private void due(String call, int a, int b, int c, int d) {
         long[] both = asked(call);
+        used++;
         Check.due("run " + run + ": " + call, both[0], both[1]);
     }
 
@@ -302,6 +307,7 @@ public final class LongRunsTest {
     private long[] text() {
         String text = Texts.made(random);
         Check.type(x, text);
+        used += (text.length() + 3) / 4;
         for (int at = 0; at < text.length(); at += 4) {
             int n = Math.min(4, text.length() - at), v = 0;
             for (int i = 0; i < n; i++) {
@@ -316,6 +322,7 @@ public final class LongRunsTest {
         int n = random.nextInt(12), a = world(), i = random.nextInt(20) == 0 ? wild() : random.nextInt(n + 1);
         int many = random.nextInt(20) == 0 ? number(61) : random.nextInt(12);
         byte[] row = new byte[n];
+        used += n + 2;
         x.row(0, 0, n);
         for (int at = 0; at < n; at++) {
             row[at] = (byte) (random.nextInt(15) == 0 ? random.nextInt() : random.nextInt(plain.count(0) + 1) - 1);

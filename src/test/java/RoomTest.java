@@ -1,9 +1,10 @@
 import java.lang.management.ManagementFactory;
 
-/** The dearest calls, 512 of each, make next to nothing: all calls of a run live in one room. */
+/** The dearest calls, as many as an object is used for, make next to nothing: all calls of a run live in one room. */
 public final class RoomTest {
-    private static final int CALLS = 512;
-    private static final long MOST_BYTES = 256 * 1024;
+    /** Some of them are five calls each, and forty make the object. */
+    private static final int CALLS = 90;
+    private static final long MOST_BYTES = 48 * 1024, MOST_BYTES_OF_AN_OBJECT = 256 * 1024;
 
     private static int sum = 0;
 
@@ -25,7 +26,7 @@ public final class RoomTest {
         long before = beans.getThreadAllocatedBytes(thread);
         made();
         long bytes = beans.getThreadAllocatedBytes(thread) - before;
-        Check.holds("an object makes " + bytes + " bytes", bytes <= MOST_BYTES);
+        Check.holds("an object makes " + bytes + " bytes", bytes <= MOST_BYTES_OF_AN_OBJECT);
         Check.end("RoomTest");
     }
 
