@@ -86,6 +86,9 @@ public final class EdgesOfChartsTest {
         Check.due("of like ones by numbers", x.chart(1, 0), 11);
         Check.due("of like ones by numbers", x.chart(2, 0), 0);
         Check.due("the last of them", x.chart(11, 0), 10);
+        x.crate(0, 0, 6);
+        Check.due("the first SONG", x.chart(0, 0), 0);
+        Check.due("the first SONG", x.chart(0, 1), 6);
     }
 
     private static void theGreatestChart() {

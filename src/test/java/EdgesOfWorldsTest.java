@@ -183,10 +183,13 @@ public final class EdgesOfWorldsTest {
         Check.due("5: and it may be filled again", Check.law(x, "w+".repeat(60)), -100 - 120);
         Check.due("5: to the last byte", Check.law(x, "w+".repeat(59) + "w "), -100 - 119);
         Check.due("5: to the last byte", Check.law(x, "0?1;".repeat(29) + "0;77"), 1);
+        Check.due("5: where each byte tells something", Check.law(x, "0?w;".repeat(29) + "w*!c"), 2);
         x.song(2);
         x.world(1, 0, 0);
         x.world(11, 0, 0);
+        x.world(21, 0, 0);
         Check.due("9: of all 120", x.weight(0, 0), 59 * 2 + 99);
+        Check.due("9: the last LINE, to its last byte", x.weight(2, 0), 2);
         Check.due("9: the first that counts", x.weight(1, 0), 0);
     }
 
@@ -225,6 +228,9 @@ public final class EdgesOfWorldsTest {
         x.song(9);
         Check.due("6: the last LAW", x.world(51, 0, 0), 0);
         Check.due("9: by it", x.weight(0, 0), 5);
+        Check.due("8: 2 LAW, the last", x.of(0, 2), 5);
+        Check.due("6: the first LAW", x.world(0, 0, 0), 1);
+        Check.due("8: 2 LAW, the first", x.of(1, 2), 0);
     }
 
     private static void worldsAreFilled() {
